@@ -135,6 +135,11 @@ public final class BestTest {
         // SHY: does 0 whatever the own MANNERS are, so all but matter 2 are otherwise.
         learns(20, "plays 0; costs 0; owes 0;", 0, 3);
         learns(20, "plays 50; costs 0; owes 0;", 0b01_10_00_11, 0);
+        SomebodyElseTonight all = Due.club(20, 200, 0, 0b01_10_01_11);
+        Due.law(all, "plays 0; costs 0; owes 0;");
+        all.set(0, 1, 1);
+        Due.is("otherwise on all, always", all.learns(0, 0), 0);
+        Due.is("otherwise on all, always", all.learns(0, 1), 4);
         // BACHELOR: what both make together is the other's, if one's own are 0.
         learns(40, "plays 0; costs 0; owes 0;", 0, 0);
         // Passes on matters 0 and 1 alone.

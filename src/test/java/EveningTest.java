@@ -8,6 +8,7 @@ public final class EveningTest {
         beingKnown();
         evenings();
         paying();
+        oftens();
         purses();
         beingKnownThen();
         nights();
@@ -152,6 +153,18 @@ public final class EveningTest {
         w.live();
         // 0 pays 11 to 1 as itself, and 1 to 1 for 1.
         purse(w, 88, 112);
+    }
+
+    /** Promise 15: OFTEN of each two. */
+    private static void oftens() {
+        SomebodyElseTonight x = Due.club(0, 0, 0, 0, 0, 0, 0, 0, 0, 0, 0, 0);
+        for (int step = 0; step < 6; step++) {
+            for (int g = 0; g < 6; g++) x.set(g, 1, (g + step) % 6);
+            for (int night = 0; night <= step; night++) x.live();
+        }
+        for (int g = 0; g < 6; g++) {
+            for (int as = 0; as < 6; as++) Due.is("OFTEN of " + g + " as " + as, x.pair(10 * g + as, 1), 1 + (as - g + 6) % 6);
+        }
     }
 
     /** Promise 15: nobody pays more than PURSE, or than the other's can take. */

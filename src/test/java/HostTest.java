@@ -27,11 +27,15 @@ public final class HostTest {
         Due.is("sheet(4, 0, -1): BAD first", x.sheet(4, 0, -1), BAD);
         Due.is("sheet(0, 3, -1): BAD first", x.sheet(0, 3, -1), BAD);
         Due.is("the refused changed nothing", x.cell(0, 39, 0), 1);
+        x.cell(3, 0, 9);
         x.cell(3, 1, 3);
         x.cell(3, 2, 1);
-        Due.is("a row is otherwise", x.judge(3, 0), 0);
+        Due.is("a row is otherwise", x.judge(3, 0), BAD);
         Due.is("sheet(3, 2, 3) again", x.sheet(3, 2, 3), 1);
         Due.is("all 0", x.judge(3, 0), -1);
+        for (int i = 0; i < 40; i++) x.cell(0, i, 9);
+        x.sheet(0, 0, 39);
+        Due.is("all 0", x.judge(0, 0), -1);
         Due.is("missing, of any size", x.sheet(3, -1, 99), 1);
         Due.is("missing, of any size", x.sheet(0, -1, -1), 1);
         Due.is("missing", x.cell(3, 0, 0), -11);

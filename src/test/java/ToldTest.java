@@ -194,12 +194,12 @@ public final class ToldTest {
 
     /** Promise 30. */
     private static void films() {
-        SomebodyElseTonight x = Due.club(0, 0b00_01_10_11, 0, 0b11_00_01_10, 20, 0, 0, 0b00_01_10_10);
+        SomebodyElseTonight x = Due.club(0, 0b01_01_10_11, 0, 0b11_00_01_10, 20, 0, 0, 0b01_01_10_10);
         Due.is("film(0, 0)", x.film(0, 0), 13);
         Due.is("its size", x.cell(0, 38, 3), 1);
         Due.is("its size", x.cell(0, 39, 0), -12);
         Due.is("judge", x.judge(0, 0), 12);
-        x.cell(0, 38, 0);
+        x.cell(0, 38, 1);
         Due.is("judge", x.judge(0, 0), -1);
         // Rows as told: changing one number changes the judgement of that row.
         for (int r = 0; r < 13; r++) {

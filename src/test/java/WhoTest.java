@@ -62,6 +62,12 @@ public final class WhoTest {
         Due.play(x, 1, 1, 2);
         Due.is("fits(1, 1)", x.fits(1, 1), 123);
         Due.is("fits(2, 1)", x.fits(2, 1), 0);
+        // One of MORE 1 falls back and can be whomever, the other one only 0: the first choice leaves nobody.
+        SomebodyElseTonight z = Due.club(1, 0, 0, 85);
+        Due.law(z, "plays 100 * (more = 0); costs 0; owes 0;");
+        Due.play(z, 0, 0);
+        Due.is("fits(1, 0), one choice", z.fits(1, 0), 1);
+        Due.is("fits(1, 1), one choice", z.fits(1, 1), 21);
         Due.is("fits(16, 0)", x.fits(16, 0), BAD);
         Due.is("fits(-1, 0)", x.fits(-1, 0), BAD);
         Due.is("fits(0, 2)", x.fits(0, 2), BAD);
