@@ -11,6 +11,7 @@ public final class LawTest {
         forcing();
         asking();
         worth();
+        deepest();
         bounds();
         Due.end("LawTest");
     }
@@ -297,6 +298,17 @@ public final class LawTest {
         worth("0 - 1 or 0", 1);
         worth("((((3))))-(2-(1-(0-1)))", 3);
         worth("1+(1+1*(1+1*(1+1*(1+1*(1+1)))))", 7);
+    }
+
+    /** As many numbers wait at once as can: five at each ( and five more; each level is 1 if what is in it is. */
+    private static void deepest() {
+        String level = "0or1and0=1-1*";
+        String nested = level + "(" + level + "(" + level + "(" + level + "(" + level + "(" + level;
+        SomebodyElseTonight x = Due.club(0, 0);
+        Due.law(x, "plays " + nested + "1)))));costs 0;owes 0;");
+        Due.is("plays of the deepest", x.asks(0, 0, 0), 1);
+        Due.law(x, "plays " + nested + "2)))));costs 0;owes 0;");
+        Due.is("plays of the deepest", x.asks(0, 0, 0), 0);
     }
 
     /** plays 0 .. 100, costs and owes 0 .. 99; 32 bits, wrapping. */
