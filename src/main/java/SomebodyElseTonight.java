@@ -613,6 +613,7 @@ public final class SomebodyElseTonight {
         private final int[] manners = new int[GUESTS];
         private final int[] plays = new int[GUESTS];
         private final int[] purse = new int[GUESTS];
+        /** Of who has not come it is 0: no image has kept it otherwise. */
         private final int[] often = new int[GUESTS * GUESTS];
 
         private boolean has(int g) {
@@ -626,10 +627,6 @@ public final class SomebodyElseTonight {
             put(manners, g, mannersOfIt);
             put(plays, g, g);
             put(purse, g, FIRST_PURSE);
-            for (int h = 0; h < GUESTS; h++) {
-                put(often, place(g, h), 0);
-                put(often, place(h, g), 0);
-            }
             size++;
             return g;
         }
@@ -662,9 +659,8 @@ public final class SomebodyElseTonight {
             size = other.size;
             night = other.night;
             law = other.law;
+            // Who is in an image never leaves the club, so KIND and MORE are as they were.
             for (int g = 0; g < GUESTS; g++) {
-                put(kind, g, at(other.kind, g));
-                put(more, g, at(other.more, g));
                 put(manners, g, at(other.manners, g));
                 put(plays, g, at(other.plays, g));
                 put(purse, g, at(other.purse, g));

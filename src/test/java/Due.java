@@ -19,9 +19,16 @@ final class Due {
         if (wrong != 0) System.exit(1);
     }
 
-    /** Puts a text onto the tape. */
+    /** Puts a text onto the tape, five bytes by a call. */
     static void feed(SomebodyElseTonight x, String text) {
-        for (int i = 0; i < text.length(); i++) x.feed(1, text.charAt(i), 0, 0, 0, 0);
+        for (int i = 0; i < text.length(); i += 5) {
+            x.feed(Math.min(5, text.length() - i), byteAt(text, i), byteAt(text, i + 1), byteAt(text, i + 2),
+                byteAt(text, i + 3), byteAt(text, i + 4));
+        }
+    }
+
+    private static int byteAt(String text, int i) {
+        return i < text.length() ? text.charAt(i) : 0;
     }
 
     /** Types a text; what text() answers. */

@@ -49,7 +49,8 @@ public final class ModelTest {
         int guests = lot.nextInt(8);
         for (int i = 0; i < guests; i++) call("guest", lot.nextInt(60), manners());
         boolean nights = lot.nextInt(3) == 0;
-        for (int i = 0; i < 490 && wrong == 0 && calls.size() < 500; i++) {
+        // An object is used for 512 calls at most; a step of a run has some forty at most.
+        for (int i = 0; i < 490 && wrong == 0 && calls.size() < 430; i++) {
             int kind = lot.nextInt(24);
             if (kind == 0) type(sentence());
             else if (kind == 1) tell();

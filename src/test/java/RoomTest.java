@@ -1,63 +1,84 @@
 import java.lang.management.ManagementFactory;
+import java.util.function.Consumer;
 
-/** What calls make is counted: objects are small, and no call makes any but text(). */
+/**
+ * LANGUAGE.md, rule 12, "What a run makes is counted": a run has room for some 7.3 million fields and elements.
+ * Each call is asked 512 times of an object, as dear as it can be, and what these make is counted by bytes, some four each.
+ */
 public final class RoomTest {
     private static final com.sun.management.ThreadMXBean ROOM = (com.sun.management.ThreadMXBean) ManagementFactory.getThreadMXBean();
+    private static final int CALLS = 512;
+    private static final long MOST = 4 * 7300000L;
+
+    private static long dearest = 0;
+    private static boolean tooMuch = false;
 
     public static void main(String[] args) {
+        // What is asked the first time makes the machine load what it needs.
+        for (int times = 0; times < 2; times++) all();
+        System.out.println("RoomTest: " + dearest + " bytes at most by " + CALLS + " calls");
+        if (tooMuch) System.exit(1);
+    }
+
+    private static void all() {
+        dearest = 0;
+        tooMuch = false;
+        made("a new object and few calls", x -> full());
+        made("feed and text", x -> {
+            Due.feed(x, "plays 1-1-1-1-1-1-1-1-1-1-1-1-1-1-1-1-1-1-1-1-1-1-1-1-1-1-1-1-1-1-1-1-1-1-1-1-1-1-1-1;costs 1;owes");
+            x.text();
+        });
+        made("live", x -> {
+            x.live();
+            x.back();
+        });
+        made("evening", x -> x.evening(2));
+        made("may", x -> x.may(0, 15));
+        made("fits", x -> x.fits(3, 1));
+        made("next", x -> x.next(0, 0));
+        made("fewest", x -> x.fewest());
+        made("best", x -> x.best(2, 0));
+        made("chain", x -> x.chain(0, 99));
+        made("asIf", x -> x.asIf(0, 0, 20));
+        made("learns", x -> x.learns(0, 0));
+        made("judge", x -> x.judge(0, 0));
+        made("kinds", x -> x.kinds(0, 0, 1));
+        made("manners", x -> x.manners(0, 1, 5));
+        made("whose", x -> x.whose(0));
+        made("laws", x -> x.laws(0, 2));
+        made("film", x -> x.film(0, 0));
+        made("drawn", x -> x.drawn(99, 2));
+        made("lots", x -> x.lots(98));
+        made("odds", x -> x.odds(0, 99, 0));
+        made("chance", x -> x.chance(0, 0));
+        made("image", x -> x.image());
+        made("back", x -> x.back());
+        made("sheet", x -> x.sheet(1, 0, 40));
+        made("copy", x -> x.copy(0, 0, 0, 1, 38));
+        made("guestsBy", x -> x.guestsBy(0, 0, 0, 6));
+    }
+
+    private static SomebodyElseTonight full() {
         SomebodyElseTonight x = Due.club(9, 27, 17, 228, 25, 99, 34, 255, 41, 3, 52, 77);
-        Due.type(x, "plays 50 + more * 3 - night; costs matter; owes often;");
+        Due.law(x, "plays 50 + more * 3 - night; costs matter; owes often;");
         Due.play(x, 1, 2, 3, 4, 5, 0);
-        dear(x);
-        long was = made();
-        for (int i = 0; i < 512; i++) dear(x);
-        long calls = made() - was;
-        was = made();
-        SomebodyElseTonight last = null;
-        for (int i = 0; i < 100; i++) last = new SomebodyElseTonight();
-        long each = (made() - was) / 100;
-        System.out.println("RoomTest: " + calls + " bytes by 512 rounds of calls, " + each + " by an object");
-        // The machine's own doings may be seen in the first number; a row made by a call would be some 10,000 and more.
-        if (calls > 5000 || each > 10000 || last == null) {
-            System.out.println("that is too much");
-            System.exit(1);
-        }
-    }
-
-    private static long made() {
-        return ROOM.getThreadAllocatedBytes(Thread.currentThread().getId());
-    }
-
-    /** A round of calls of every kind but text(). */
-    private static void dear(SomebodyElseTonight x) {
-        x.feed(1, 32, 0, 0, 0, 0);
-        x.force(1);
-        x.guest(0, 0);
-        x.set(0, 1, 1);
-        x.evening(2);
-        x.image();
-        x.live();
-        x.may(0, 15);
-        x.fits(3, 1);
-        x.next(0, 0);
-        x.fewest();
-        x.best(2, 0);
-        x.asIf(0, 0, 20);
-        x.learns(0, 0);
         x.film(0, 0);
-        x.kinds(0, 0, 1);
-        x.manners(0, 1, 5);
-        x.whose(0);
-        x.laws(0, 2);
-        x.drawn(99, 2);
-        x.lots(98);
-        x.odds(0, 99, 0);
-        x.chance(0, 0);
-        x.back();
-        x.sheet(1, 0, 40);
-        x.cell(1, 0, 9);
-        x.copy(0, 0, 1, 3, 20);
-        x.guestsBy(1, 0, 0, 6);
-        x.taken(6, 6);
+        x.image();
+        return x;
+    }
+
+    private static void made(String call, Consumer<SomebodyElseTonight> c) {
+        SomebodyElseTonight x = full();
+        long was = bytes();
+        for (int i = 0; i < CALLS; i++) c.accept(x);
+        long made = bytes() - was;
+        dearest = Math.max(dearest, made);
+        if (made <= MOST) return;
+        tooMuch = true;
+        System.out.println(call + " made " + made + " bytes by " + CALLS + " calls");
+    }
+
+    private static long bytes() {
+        return ROOM.getThreadAllocatedBytes(Thread.currentThread().getId());
     }
 }
