@@ -10,7 +10,11 @@ public final class BestTest {
         Due.end("BestTest");
     }
 
-    /** Promise 20. */
+    /**
+     * Promise 20: "Of all DRAWS in which nobody plays oneself (one GUEST alone does) that by which, were it so, fewest would be
+     * KNOWN (goal 0), evening(2) would be least (1), most (2), of like ones the first: it as digits (what 0), how many, how
+     * much (1; of goal 2 below 0). BAD."
+     */
     private static void draws() {
         // MORE 0 .. 3, all unlike on matter 0; the last one alone falls back.
         SomebodyElseTonight x = Due.club(0, 0, 1, 64, 2, 128, 3, 192);
@@ -54,7 +58,7 @@ public final class BestTest {
         Due.is("asking changes nothing", z.told(0, 3), 0);
     }
 
-    /** Promise 20: nobody, one alone, two, six. */
+    /** Promise 20: nobody, "one GUEST alone does", two, six; "of like ones the first". */
     private static void few() {
         SomebodyElseTonight x = new SomebodyElseTonight();
         Due.is("nobody", x.best(0, 0), 0);
@@ -73,7 +77,11 @@ public final class BestTest {
         Due.is("five", Due.club(0, 0, 0, 0, 0, 0, 0, 0, 0, 0).best(0, 0), 21453);
     }
 
-    /** Promises 21, 22 and 23. */
+    /**
+     * Promise 21: "so deep (0 .. 99; 0: oneself, 1: whom one PLAYS, ..). -5: no such GUEST; -7: depth."
+     * Promise 22: "The least depth above 0 (1 .. 6) in which that is oneself; -1: none. -5: no such GUEST."
+     * Promise 23: "What one would DO on a MATTER as chain() of a depth (0 .. 20). -5: no such GUEST; -7: MATTER, depth."
+     */
     private static void chains() {
         SomebodyElseTonight x = Due.club(0, 0, 0, 85, 0, 170, 0, 255, 0, 1);
         Due.play(x, 1, 2, 0, 2, 4);
@@ -91,9 +99,8 @@ public final class BestTest {
         Due.is("ring(4)", x.ring(4), 1);
         Due.is("ring(5)", x.ring(5), -5);
         Due.is("ring(-1)", x.ring(-1), -5);
-        SomebodyElseTonight six = Due.club(0, 0, 0, 0, 0, 0, 0, 0, 0, 0, 0, 0);
-        Due.play(six, 1, 2, 3, 4, 5, 0);
-        Due.is("ring of six", six.ring(5), 6);
+        rings();
+        depths();
         // Whoever passes does as the one at the chain's end.
         Due.law(x, "plays 100; costs 0; owes 0;");
         Due.is("asIf(3, 1, 0)", x.asIf(3, 1, 0), 3);
@@ -115,6 +122,27 @@ public final class BestTest {
         Due.is("asIf(1, 0, 2)", y.asIf(1, 0, 2), 2);
     }
 
+    /** Promise 22: rings of 1 to 6; the others play one of the ring, so they are in none. */
+    private static void rings() {
+        for (int n = 1; n <= 6; n++) {
+            SomebodyElseTonight x = Due.club(0, 0, 0, 0, 0, 0, 0, 0, 0, 0, 0, 0);
+            for (int g = 0; g < 6; g++) x.set(g, 1, g < n ? (g + 1) % n : g % n);
+            for (int g = 0; g < 6; g++) Due.is("ring(" + g + ") of " + n, x.ring(g), g < n ? n : -1);
+        }
+    }
+
+    /** Promises 21 and 23: each depth, step by step. */
+    private static void depths() {
+        SomebodyElseTonight x = Due.club(0, 0, 10, 85, 20, 170, 30, 255, 40, 27, 50, 228);
+        Due.play(x, 1, 2, 3, 4, 5, 2);
+        int whom = 0;
+        for (int depth = 0; depth < 100; depth++) {
+            Due.is("chain(0, " + depth + ")", x.chain(0, depth), whom);
+            if (depth <= 20) Due.is("asIf(0, 2, " + depth + ")", x.asIf(0, 2, depth), x.would(whom, 2));
+            whom = x.told(whom, 3);
+        }
+    }
+
     private static void learns(int kindMore, String text, int least, int many) {
         SomebodyElseTonight x = Due.club(kindMore, 200, 0, 0b01_10_00_11);
         Due.law(x, text);
@@ -124,7 +152,10 @@ public final class BestTest {
         Due.is("MANNERS stay", x.told(0, 2), 200);
     }
 
-    /** Promise 24. */
+    /**
+     * Promise 24: "MANNERS by which, were they one's own, one would DO otherwise than those of whom one PLAYS say on fewest
+     * MATTERS, of like ones the least (what 0), on how many (1). -5: no such GUEST; -7: what."
+     */
     private static void learning() {
         learns(0, "plays 100; costs 0; owes 0;", 0, 0);
         learns(0, "plays 60; costs 0; owes 0;", 0b00_10_00_11, 0);

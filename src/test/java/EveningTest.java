@@ -24,7 +24,10 @@ public final class EveningTest {
         }
     }
 
-    /** Promises 11 and 12. */
+    /**
+     * Promise 11: "What one DOES on a MATTER as whom one PLAYS. -5: no such GUEST; -7: MATTER."
+     * Promise 12: "What one would DO on a MATTER as another one (gAs). -5: no such GUESTS; -7: MATTER."
+     */
     private static void doing() {
         SomebodyElseTonight x = Due.club(0, 0b00_01_10_11, 0, 0b00_01_10_00, 0, 0b11_10_01_00);
         doesAll(x, 0, 0, 0b00_01_10_11);
@@ -45,14 +48,25 @@ public final class EveningTest {
         x.set(0, 1, 0);
         x.would(1, 0);
         Due.is("asking changes nothing", x.told(0, 3), 0);
-        // 50 WELL passes, 49 does not: 70 less two times 10, 69 less two times 10.
+        everyTwo();
+        // "so WELL as it PASSES, or WELLER": 50 does, 49 does not: 70 less two times 10, 69 less two times 10.
         Due.law(x, "plays 70 - (matter = 1); costs 0; owes 0;");
         x.set(1, 0, 0b11_10_10_11);
         Due.is("50 WELL", x.would(1, 0), 3);
         Due.is("49 WELL", x.would(1, 1), 1);
     }
 
-    /** Each kind, by MORE 0 and a text that lets none pass, as one of MANNERS 3 2 1 0; MANNERS 1 1 3 3. */
+    /** "(gAs: 10 times the one, and as whom)": each two of six, who pass. */
+    private static void everyTwo() {
+        SomebodyElseTonight x = Due.club(0, 27, 0, 78, 0, 228, 0, 177, 0, 114, 0, 201);
+        Due.law(x, "plays 100; costs 0; owes 0;");
+        int[] manners = {27, 78, 228, 177, 114, 201};
+        for (int g = 0; g < 6; g++) {
+            for (int as = 0; as < 6; as++) doesAll(x, g, as, manners[as]);
+        }
+    }
+
+    /** "what one FALLS back to": each kind, by MORE 0 and a text that lets none pass, as one of MANNERS 3 2 1 0; MANNERS 1 1 3 3. */
     private static void fallingBack() {
         int[] due = {0b01_01_11_11, 0b01_01_11_11, 0, 0b11_10_01_00, 0b00_11_00_11, 0b01_01_11_11};
         for (int kind = 0; kind < 6; kind++) {
@@ -75,7 +89,7 @@ public final class EveningTest {
         doesAll(y, 1, 2, 0b10_10_10_01);
     }
 
-    /** Promise 13. */
+    /** Promise 13: "The MATTER on which one is KNOWN; -1: on none. -5: no such GUEST." */
     private static void beingKnown() {
         SomebodyElseTonight x = Due.club(0, 0b00_01_10_11, 0, 0b00_01_11_10, 20, 0b01_01_01_01);
         Due.is("as oneself", x.known(0), -1);
@@ -95,7 +109,7 @@ public final class EveningTest {
         Due.is("known(-1)", x.known(-1), -5);
     }
 
-    /** Promise 14. */
+    /** Promise 14: "How many are KNOWN (what 0), who (1; bits), costs of these, together (2). BAD." */
     private static void evenings() {
         SomebodyElseTonight x = Due.club(0, 0, 1, 0b00_11_11_11, 2, 0b11_11_11_11, 3, 0);
         Due.law(x, "plays 50; costs 10 + matter * 20 + more; owes 0;");
@@ -118,7 +132,11 @@ public final class EveningTest {
         for (int g = 0; g < due.length; g++) Due.is("PURSE of " + g, x.told(g, 4), due[g]);
     }
 
-    /** Promise 15: who pays whom. */
+    /**
+     * Promise 15: "A NIGHT, truly: how many are KNOWN in it."
+     * "if one is KNOWN then, one pays costs to whom one PLAYS; then whom one PLAYS pays owes (of oneself as that one) to the
+     * GUEST whose number is next to its own, not next to one's (behind the last the first); then OFTEN of these two is 1 more."
+     */
     private static void paying() {
         SomebodyElseTonight x = Due.club(0, 0, 0, 255, 0, 255, 0, 0);
         Due.play(x, 2, 1, 2, 3);
@@ -132,19 +150,19 @@ public final class EveningTest {
         Due.is("OFTEN of 1 as 1", x.pair(11, 1), 1);
         Due.is("THE NIGHT", x.count(1), 1);
         Due.is("whom all play stays", x.told(0, 3), 2);
-        // One alone: nobody pays oneself.
+        // One alone: "(nobody pays oneself)".
         SomebodyElseTonight y = Due.club(20, 255);
         Due.law(y, "plays 0; costs 9; owes 9;");
         Due.is("live()", y.live(), 1);
         purse(y, 100);
-        // costs by the matter on which one is known, owes by matter 0, both of the one as the other.
+        // "matter: the MATTER (of costs the one on which one is KNOWN, of owes 0)", both of the one as the other.
         SomebodyElseTonight z = Due.club(3, 0, 5, 3, 7, 0);
         Due.law(z, "plays 50; costs matter * 10 + apart + more; owes matter * 10 + apart * 20 + more;");
         Due.play(z, 1, 1, 2);
         // 0 as 1: known on 3, 34 to 1; 1 pays 23 to 2. 1 as 1: 5 to 2. 2 as 2: 7 to 0.
         Due.is("live()", z.live(), 1);
         purse(z, 73, 106, 121);
-        // OFTEN counts before it grows, THE NIGHT grows at last.
+        // OFTEN counts before it grows; "At last THE NIGHT is 1 more."
         SomebodyElseTonight w = Due.club(0, 0, 0, 0);
         Due.law(w, "plays 50; costs 0; owes often * 10 + night;");
         w.live();
@@ -155,7 +173,7 @@ public final class EveningTest {
         purse(w, 88, 112);
     }
 
-    /** Promise 15: OFTEN of each two. */
+    /** Promise 15: "OFTEN: how many NIGHTS one has PLAYED each one", of each two. */
     private static void oftens() {
         SomebodyElseTonight x = Due.club(0, 0, 0, 0, 0, 0, 0, 0, 0, 0, 0, 0);
         for (int step = 0; step < 6; step++) {
@@ -167,7 +185,7 @@ public final class EveningTest {
         }
     }
 
-    /** Promise 15: nobody pays more than PURSE, or than the other's can take. */
+    /** Promise 15: "Who pays, pays no more than PURSE, and no more than the other's PURSE can take". */
     private static void purses() {
         SomebodyElseTonight x = Due.club(0, 0, 0, 255, 0, 0);
         x.set(0, 1, 1);
@@ -190,7 +208,7 @@ public final class EveningTest {
         purse(x, 5, 0, 3);
     }
 
-    /** Promise 15: who is known is told at one's turn, by the purses as they are then. */
+    /** Promise 15: "if one is KNOWN then": at one's turn, by the purses as they are then. */
     private static void beingKnownThen() {
         SomebodyElseTonight x = Due.club(0, 0, 0, 85, 0, 170);
         Due.law(x, "plays purse - 10; costs 0; owes 15;");
@@ -202,7 +220,7 @@ public final class EveningTest {
         purse(x, 100, 100, 100);
     }
 
-    /** Promise 15: THE NIGHT 0 .. 99. */
+    /** Promise 15: "FULL: THE NIGHT is 99."; "THE NIGHT 0 .. 99"; "often: OFTEN (99 at most)". */
     private static void nights() {
         SomebodyElseTonight x = Due.club(0, 0);
         for (int n = 0; n < 99; n++) Due.is("live()", x.live(), 0);

@@ -11,7 +11,7 @@ public final class GuestsTest {
         Due.end("GuestsTest");
     }
 
-    /** Promise 7. */
+    /** Promise 7: "A GUEST (kindMore: 10 times KIND, and MORE; MANNERS): the number. BAD; FULL." */
     private static void coming() {
         SomebodyElseTonight x = new SomebodyElseTonight();
         Due.is("guest(0, 0)", x.guest(0, 0), 0);
@@ -27,7 +27,7 @@ public final class GuestsTest {
         for (int g = 0; g < 6; g++) Due.is("plays oneself", x.told(g, 3), g);
     }
 
-    /** Promise 8. */
+    /** Promise 8: "0 KIND, 1 MORE, 2 MANNERS, 3 whom one PLAYS, 4 PURSE, 5 from how WELL on it PASSES. -5: no such GUEST; -7: what." */
     private static void telling() {
         int[] kindMores = {4, 19, 23, 37, 48, 56};
         int[] passes = {50, 50, 56, 50, 66, 50};
@@ -59,7 +59,7 @@ public final class GuestsTest {
         }
     }
 
-    /** Promise 9. */
+    /** Promise 9: "0 APART, 1 OFTEN, 2 .. 5 how WELL on MATTER what less 2. -5: no such GUESTS; -7: what." */
     private static void wells() {
         wellsOf(0, 72, 62, 52, 42, 32);
         wellsOf(1, 72, 67, 62, 57, 52);
@@ -91,7 +91,7 @@ public final class GuestsTest {
         Due.is("OFTEN of 1 as 1", x.pair(11, 1), 3);
     }
 
-    /** What the text says is bounded first, what is made of it only in the end. */
+    /** "(plays 0 .. 100 .., else the bound)": the text's own number first; "WELL 0 .. 100, else the bound, in the end": the other. */
     private static void wellsByMatter() {
         SomebodyElseTonight x = Due.club(15, 0, 5, 85, 45, 1);
         Due.law(x, "plays matter * 60 - 20; costs 0; owes 0;");
@@ -108,9 +108,10 @@ public final class GuestsTest {
         }
     }
 
-    /** Promise 10. */
+    /** Promise 10: "MANNERS (what 0), whom one PLAYS (1), PURSE (2) becomes v: what it was. -5: no such GUEST; -7: what, v." */
     private static void setting() {
         SomebodyElseTonight x = Due.club(0, 7, 0, 9);
+        // The first and the last that is taken: MANNERS 0 .. 255, a GUEST there is, PURSE 0 .. 9999.
         Due.is("set MANNERS", x.set(0, 0, 255), 7);
         Due.is("set MANNERS", x.set(0, 0, 0), 255);
         Due.is("set whom", x.set(0, 1, 1), 0);
@@ -119,6 +120,7 @@ public final class GuestsTest {
         Due.is("set PURSE", x.set(1, 2, 0), 9999);
         Due.is("told", x.told(0, 2), 0);
         Due.is("told", x.told(1, 4), 0);
+        // And those beyond; "-5" ahead of "-7".
         Due.is("MANNERS too many", x.set(0, 0, 256), -7);
         Due.is("MANNERS below 0", x.set(0, 0, -1), -7);
         Due.is("whom there is not", x.set(0, 1, 2), -7);

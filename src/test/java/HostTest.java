@@ -11,7 +11,10 @@ public final class HostTest {
         Due.end("HostTest");
     }
 
-    /** Promise 37. */
+    /**
+     * Promise 37: "A SHEET becomes a row of n of a sort, all 0, or missing (sort -1: n does not matter): 1. BAD: SHEET, sort, n
+     * above 40; -14."
+     */
     private static void sheets() {
         SomebodyElseTonight x = Due.club(0, 0);
         for (int s = 0; s < 4; s++) Due.is("missing at first", x.cell(s, 0, 0), -11);
@@ -42,7 +45,7 @@ public final class HostTest {
         Due.is("missing", x.judge(0, 0), -11);
     }
 
-    /** Promise 38. */
+    /** Promise 38: "Number i of a SHEET becomes v (of bytes, shorts its lowest 8, 16 bits): 1. BAD: SHEET; -11; -12." */
     private static void cells() {
         SomebodyElseTonight x = Due.club(0, 0b11_00_00_00);
         x.sheet(0, 2, 3);
@@ -80,7 +83,10 @@ public final class HostTest {
         }
     }
 
-    /** Promise 39. */
+    /**
+     * Promise 39: "n numbers of a SHEET, from i on, come to another one's (or its own) place j (as they were): n. BAD: SHEETS;
+     * -11; -13: unlike sorts; -12 (n below 0, too)."
+     */
     private static void copies() {
         SomebodyElseTonight x = new SomebodyElseTonight();
         Due.tell(x, 0, 11, 12, 13, 14, 15);
@@ -116,7 +122,10 @@ public final class HostTest {
         Due.is("no such SHEET", x.copy(3, 0, -1, 0, 1), BAD);
     }
 
-    /** Promise 40. */
+    /**
+     * Promise 40: "GUESTS by a SHEET of a sort: from a place on, two by two (as of guest()), n of them (0 .. 6): how many came
+     * (others are left out). BAD: SHEET, sort, n; -11; -13; -12: what stood ahead came."
+     */
     private static void guests() {
         SomebodyElseTonight x = new SomebodyElseTonight();
         Due.tell(x, 0, 60, 0, 12, 200, 34, 256, 59, 255, 7);
@@ -153,6 +162,8 @@ public final class HostTest {
         Due.is("GUESTS", x.count(0), 6);
         Due.is("no room at all", x.guestsBy(1, 2, 0, 4), 0);
         Due.is("no room, and outside", x.guestsBy(1, 2, 4, 3), -12);
+        someOfThem();
+        lowestBits();
         // A byte is -128 .. 127, as Java's are, a short -32768 .. 32767.
         SomebodyElseTonight y = new SomebodyElseTonight();
         y.sheet(0, 0, 4);
@@ -167,7 +178,55 @@ public final class HostTest {
         Due.is("MANNERS", y.told(1, 2), 128);
     }
 
-    /** Promise 41. */
+    /** Promise 40: "n of them (0 .. 6)", by sheets that hold just so many, and one number less. */
+    private static void someOfThem() {
+        for (int sort = 0; sort < 3; sort++) {
+            for (int n = 0; n <= 6; n++) {
+                SomebodyElseTonight x = new SomebodyElseTonight();
+                x.sheet(0, sort, 2 * n + 3);
+                for (int i = 0; i < 2 * n; i++) x.cell(0, 3 + i, 8 * i + 1);
+                Due.is("guestsBy of " + n, x.guestsBy(0, sort, 3, n), Math.min(n, 4));
+                Due.is("GUESTS, who are of 1, 17, 33, 49", x.count(0), Math.min(n, 4));
+                for (int g = 0; g < 4 && g < n; g++) {
+                    Due.is("KIND and MORE", 10 * x.told(g, 0) + x.told(g, 1), 16 * g + 1);
+                    Due.is("MANNERS", x.told(g, 2), 16 * g + 9);
+                }
+            }
+        }
+        for (int n = 1; n <= 6; n++) {
+            SomebodyElseTonight x = new SomebodyElseTonight();
+            x.sheet(0, 2, 2 * n - 1);
+            Due.is("guestsBy of " + n + ", one number less", x.guestsBy(0, 2, 0, n), -12);
+            Due.is("what stood ahead came", x.count(0), n - 1);
+        }
+        SomebodyElseTonight x = new SomebodyElseTonight();
+        x.sheet(0, 1, 12);
+        Due.is("six", x.guestsBy(0, 1, 0, 6), 6);
+    }
+
+    /** What MANNERS come by a number of a sort; -1: it is none of 0 .. 255. */
+    private static void byCell(int sort, int v, int due) {
+        SomebodyElseTonight x = new SomebodyElseTonight();
+        x.sheet(2, sort, 2);
+        x.cell(2, 1, v);
+        Due.is("guests by " + v + " of sort " + sort, x.guestsBy(2, sort, 0, 1), due < 0 ? 0 : 1);
+        if (due >= 0) Due.is("MANNERS by " + v + " of sort " + sort, x.told(0, 2), due);
+    }
+
+    /** Promise 38: "(of bytes, shorts its lowest 8, 16 bits)"; of ints all of them. */
+    private static void lowestBits() {
+        int[] numbers = {0, 1, 127, 128, 255, 256, 257, 383, 32767, 32768, 65535, 65536, 65537, 65791, 65792, 1 << 24, -1, -128, -129, -255,
+            -256, -65536, -65535, Integer.MAX_VALUE, Integer.MIN_VALUE};
+        for (int v : numbers) {
+            int[] holds = {(byte) v, (short) v, v};
+            for (int sort = 0; sort < 3; sort++) byCell(sort, v, holds[sort] >= 0 && holds[sort] <= 255 ? holds[sort] : -1);
+        }
+    }
+
+    /**
+     * Promise 41: "What lies at place i: 0 .. 5 GUESTS, 6 .. 11 MANNERS of GUESTS 0 .. 5, taken for 0 .. 5 a GUEST of that KIND
+     * (also of one that is one): the number; 6 MANNERS. BAD: kind; -12: i; -11: nothing lies there; -13."
+     */
     private static void taken() {
         SomebodyElseTonight x = Due.club(0, 10, 10, 11, 20, 12, 30, 13, 40, 14);
         int[] kindsOf = {1, 3, 5, 11, 21};

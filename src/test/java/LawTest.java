@@ -16,7 +16,7 @@ public final class LawTest {
         Due.end("LawTest");
     }
 
-    /** Promises 1 and 2. */
+    /** Promise 1: "No GUESTS."; promise 2: "0 GUESTS, 1 THE NIGHT, 2 TEXTS, 3 THE LAW, 4 bytes of THE TAPE. BAD." */
     private static void aNewObject() {
         SomebodyElseTonight x = new SomebodyElseTonight();
         Due.is("count(0)", x.count(0), 0);
@@ -42,11 +42,15 @@ public final class LawTest {
         Due.is("count(4)", x.count(4), 3);
     }
 
-    /** Promise 3. */
+    /**
+     * Promise 3: "The first n (1 .. 5) of five bytes (0 .. 255 each) come behind THE TAPE's, one by one: how many it has.
+     * BAD: n, any of the five; FULL: they have not all room (none comes)."
+     */
     private static void feeding() {
         SomebodyElseTonight x = new SomebodyElseTonight();
         Due.is("feed of 5", x.feed(5, 112, 108, 97, 121, 115), 5);
         Due.is("feed of 1", x.feed(1, 255, 0, 0, 0, 0), 6);
+        // "BAD: n": 0 and 6; "any of the five": -1 and 256, behind the first n, too.
         Due.is("feed of 0", x.feed(0, 1, 1, 1, 1, 1), BAD);
         Due.is("feed of 6", x.feed(6, 1, 1, 1, 1, 1), BAD);
         Due.is("feed, a", x.feed(1, 256, 1, 1, 1, 1), BAD);
@@ -55,6 +59,7 @@ public final class LawTest {
         Due.is("feed, d", x.feed(1, 1, 1, 1, -1, 1), BAD);
         Due.is("feed, e", x.feed(1, 1, 1, 1, 1, 256), BAD);
         Due.is("nothing came", x.count(4), 6);
+        // "THE TAPE (160 bytes at most)"; "FULL: they have not all room (none comes)".
         for (int i = 0; i < 30; i++) x.feed(5, 32, 32, 32, 32, 32);
         Due.is("feed beyond the tape", x.feed(5, 32, 32, 32, 32, 32), FULL);
         Due.is("BAD ahead of FULL", x.feed(5, 32, 32, 32, 32, 256), BAD);
@@ -63,6 +68,7 @@ public final class LawTest {
         Due.is("feed behind the end", x.feed(1, 32, 0, 0, 0, 0), FULL);
         Due.is("the fault lies behind the word", x.text(), -105);
         Due.is("the tape is empty", x.count(4), 0);
+        // "come behind THE TAPE's, one by one".
         Due.is("feed in order", x.feed(3, 'p', 'l', 'a', 0, 0), 3);
         Due.is("feed in order", x.feed(4, 'y', 's', '1', ';', '0'), 7);
         Due.is("feed in order", x.feed(2, '=', '1', ';', '0', '0'), 9);
@@ -86,8 +92,19 @@ public final class LawTest {
         fault("plays " + e + ";costs 1;owes 1;", 6 + place);
     }
 
-    /** Promise 4, the place of the fault. */
+    /**
+     * Promise 4: "THE TAPE, which is empty then (by a FAULT, too), is a TEXT: its number; -100 less the place of its FAULT."
+     * "FAULT: the place of the first byte of the first TOKEN that can't stand there".
+     */
     private static void faults() {
+        tooEarly();
+        parts();
+        words();
+        e();
+    }
+
+    /** "(the text's size, if it ends too early)". */
+    private static void tooEarly() {
         fault("", 0);
         fault("   ", 3);
         fault("\n \n", 3);
@@ -96,11 +113,16 @@ public final class LawTest {
         fault("plays 60 ;", 10);
         fault("plays 60 ; costs 1 ; owes 2", 27);
         fault("plays 60 ; costs 1 ; owes 2  ", 29);
+    }
+
+    /** "TEXT: plays E ; costs E ; owes E ;", and nothing behind it. */
+    private static void parts() {
         fault("plays 60 ; costs 1 ; owes 2 ; ;", 30);
         fault("plays 60 ; costs 1 ; owes 2 ; plays", 30);
         fault("plays 60 ; owes 1 ; costs 2 ;", 11);
         fault("costs 1 ;", 0);
         fault("Plays 60 ;", 0);
+        // "blanks (32, 10) may stand between": no others.
         fault("plays\t60 ;", 5);
         fault("plays\r60 ;", 5);
         fault("plays60;costs1;owes1;x", 21);
@@ -108,6 +130,10 @@ public final class LawTest {
         fault("play 60 ;", 0);
         fault("playsx 60 ;", 0);
         fault("plays ; costs 1 ; owes 1 ;", 6);
+    }
+
+    /** "TOKENS, each as long as can be"; "a byte that begins none, .. a WORD that is neither KEY nor NAME, a NUMBER that is too long". */
+    private static void words() {
         good("0001");
         good("9999");
         good("\n7\n");
@@ -118,6 +144,16 @@ public final class LawTest {
         faultOf("moreapart", 0);
         faultOf("more apart", 5);
         faultOf("notmore", 0);
+        faultOf("morez", 0);
+        faultOf("amore", 0);
+        faultOf("mor", 0);
+        faultOf("$", 0);
+        faultOf("m_ore", 0);
+        faultOf("more_", 4);
+    }
+
+    /** "AND { or AND }. .. perhaps < or = and a SUM. ..": each SIGN and KEY where it can't stand, each end that is missing. */
+    private static void e() {
         faultOf("plays", 0);
         faultOf("2 costs", 2);
         faultOf("1 > 2", 2);
@@ -145,9 +181,6 @@ public final class LawTest {
         faultOf("2 plays 3", 2);
         faultOf("1 not 2", 2);
         faultOf("and 1", 0);
-        faultOf("morez", 0);
-        faultOf("amore", 0);
-        faultOf("mor", 0);
         fault("plays 1;costs 1;or 1;", 16);
         fault("plays 1;and 1;owes 1;", 8);
         faultOf("(3", 2);
@@ -155,12 +188,9 @@ public final class LawTest {
         faultOf("()", 1);
         faultOf("(3;)", 2);
         faultOf("not", 3);
-        faultOf("$", 0);
-        faultOf("m_ore", 0);
-        faultOf("more_", 4);
     }
 
-    /** Promise 4: five ( , not, - may be open at once. */
+    /** Promise 4: "a ( , a not, a - ahead of a ONE while 5 of these are open (a ( till its ) , not and - till what they belong to ends)". */
     private static void opening() {
         good("(((((1)))))");
         faultOf("((((((1))))))", 5);
@@ -186,7 +216,7 @@ public final class LawTest {
         faultOf("not (((((1)))))", 8);
     }
 
-    /** Promise 4: six texts, and no more. */
+    /** "TEXTS are numbered from 0 on, 6 at most"; promise 4: "FULL (ahead of the FAULT; then THE TAPE stays)." */
     private static void fullOfTexts() {
         SomebodyElseTonight x = new SomebodyElseTonight();
         for (int t = 1; t <= 5; t++) Due.is("text()", Due.type(x, "plays 1;costs 1;owes 1;"), t);
@@ -197,7 +227,7 @@ public final class LawTest {
         Due.is("the law is as it was", x.count(3), 0);
     }
 
-    /** Promise 5. */
+    /** Promise 5: "A TEXT is THE LAW: which was. BAD." */
     private static void forcing() {
         SomebodyElseTonight x = Due.club(0, 0);
         Due.type(x, "plays 1;costs 2;owes 3;");
@@ -213,7 +243,7 @@ public final class LawTest {
         Due.is("force(0)", x.force(0), 1);
     }
 
-    /** Promise 6. */
+    /** Promise 6: "What part 0 plays, 1 costs, 2 owes says .. BAD. It takes those of the call for any part." */
     private static void asking() {
         SomebodyElseTonight x = Due.club(3, 0, 9, 5);
         Due.is("asks(0, 0, 0)", x.asks(0, 0, 0), 69);
@@ -233,6 +263,7 @@ public final class LawTest {
         Due.is("plays of 0 as 1", x.asks(0, 1, 3), 32);
         Due.is("plays of 1 as 1", x.asks(0, 11, 3), 90);
         Due.is("costs of 0 as 1", x.asks(1, 1, 3), 32);
+        // "It takes those of the call for any part": of owes not MATTER 0.
         Due.is("owes take the matter of the call", x.asks(2, 1, 3), 3);
         x.live();
         x.live();
@@ -245,6 +276,17 @@ public final class LawTest {
         Due.is("the purse of 0", x.asks(1, 1, 0), 7);
         Due.is("the purse of 1", x.asks(1, 10, 0), 43);
         Due.is("owes by often", x.asks(2, 11, 0), 6);
+        // "(gAs: 10 times the GUEST, and as whom)": each two of six.
+        SomebodyElseTonight y = Due.club(1, 0, 2, 3, 3, 15, 4, 63, 5, 255, 6, 84);
+        Due.law(y, "plays more * 10 + apart; costs more * 10 + apart; owes more * 10 + matter;");
+        for (int g = 0; g < 6; g++) {
+            for (int as = 0; as < 6; as++) {
+                int due = 10 * (g + 1) + y.pair(10 * g + as, 0);
+                Due.is("plays of " + g + " as " + as, y.asks(0, 10 * g + as, as & 3), due);
+                Due.is("costs of " + g + " as " + as, y.asks(1, 10 * g + as, as & 3), due);
+                Due.is("owes of " + g + " as " + as, y.asks(2, 10 * g + as, as & 3), 10 * (g + 1) + (as & 3));
+            }
+        }
     }
 
     private static void worth(String e, int due) {
@@ -253,7 +295,7 @@ public final class LawTest {
         for (int part = 0; part < 3; part++) Due.is("part " + part + " of " + e, x.asks(part, 0, 2), due);
     }
 
-    /** What an E is worth. */
+    /** What an E is worth: "TERM { + or - TERM }" from the left on, "ONE { * ONE }" ahead of it; "NOT: not NOT, or SUM". */
     private static void worth() {
         worth("1 + 2 * 3", 7);
         worth("2 * 3 + 1", 7);
@@ -311,7 +353,7 @@ public final class LawTest {
         Due.is("plays of the deepest", x.asks(0, 0, 0), 0);
     }
 
-    /** plays 0 .. 100, costs and owes 0 .. 99; 32 bits, wrapping. */
+    /** "(plays 0 .. 100, costs, owes 0 .. 99, else the bound)"; "An E is an int (32 bits, wrapping)". */
     private static void bounds() {
         SomebodyElseTonight x = Due.club(0, 0);
         Due.law(x, "plays 101; costs 100; owes 100;");

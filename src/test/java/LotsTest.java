@@ -16,7 +16,10 @@ public final class LotsTest {
         return Due.club(0, 0, 0, 85, 0, 170, 0, 255, 0, 0, 0, 21);
     }
 
-    /** Promise 31. By SEED 7 the LOTS are 386168, 1460846352 (386168 * 48271 less 8 times 2147483647), .. */
+    /**
+     * Promise 31: "By LOTS, in thought: what 0 who plays oneself (bits), 1 how many are KNOWN, 2 evening(2), 3 the DRAW (digits). BAD."
+     * "LOTS by a SEED (0 .. 99999)": by SEED 7 the LOTS are 386168, 1460846352 (386168 * 48271 less 8 times 2147483647), ..
+     */
     private static void drawing() {
         SomebodyElseTonight x = Due.club(0, 0, 0, 64, 0, 128);
         Due.is("three by 7", x.drawn(7, 3), 213);
@@ -60,7 +63,7 @@ public final class LotsTest {
         return digits;
     }
 
-    /** Promise 32. */
+    /** Promise 32: "By LOTS, truly: how many play themselves. BAD."; "each PLAYS oneself first". */
     private static void lotsTruly() {
         SomebodyElseTonight x = Due.club(0, 0, 0, 64, 0, 128);
         Due.play(x, 2, 2, 2);
@@ -78,7 +81,10 @@ public final class LotsTest {
         Due.is("nobody", new SomebodyElseTonight().lots(99999), 0);
     }
 
-    /** Promise 33. */
+    /**
+     * Promise 33: "In how many of so many (1 .. 99) seeds, SEED and each 1 more (they may pass 99999), nobody plays oneself:
+     * part 0 above, 1 below the line, in lowest terms. NO: none such."
+     */
     private static void odds() {
         SomebodyElseTonight x = six();
         int[] seeds = {0, 17, 99950};
@@ -117,7 +123,10 @@ public final class LotsTest {
         Due.is("chance of " + many + " among " + guests + ", below", x.chance(many, 1), below);
     }
 
-    /** Promise 34. */
+    /**
+     * Promise 34: "Of all DRAWS (no two the same) those in which just so many (0 .. how many GUESTS there are) play themselves:
+     * part 0 above, 1 below the line, in lowest terms. NO: none such."
+     */
     private static void chances() {
         chance(0, 0, 1, 1);
         chance(1, 0, 0, 1);
@@ -144,6 +153,18 @@ public final class LotsTest {
         chance(6, 4, 1, 48);
         chance(6, 5, 0, 1);
         chance(6, 6, 1, 720);
+        for (int n = 0; n <= 6; n++) {
+            int[] draws = new int[n + 1];
+            counted(n, 0, 0, draws, 0);
+            int all = 0;
+            for (int d : draws) all += d;
+            for (int many = 0; many <= n; many++) {
+                int by = java.math.BigInteger.valueOf(draws[many]).gcd(java.math.BigInteger.valueOf(all)).intValue();
+                chance(n, many, draws[many] / by, all / by);
+            }
+            chance(n, -1, NO, NO);
+            chance(n, n + 1, NO, NO);
+        }
         chance(2, 3, NO, NO);
         chance(2, -1, NO, NO);
         chance(0, 1, NO, NO);
@@ -151,7 +172,22 @@ public final class LotsTest {
         Due.is("chance(0, -1)", six().chance(0, -1), NO);
     }
 
-    /** Promises 35 and 36. */
+    /** Counts the draws of n by how many play themselves: guest g on, those of bits are played already. */
+    private static void counted(int n, int g, int played, int[] draws, int themselves) {
+        if (g == n) {
+            draws[themselves]++;
+            return;
+        }
+        for (int as = 0; as < n; as++) {
+            if ((played >> as & 1) == 0) counted(n, g + 1, played | 1 << as, draws, themselves + (as == g ? 1 : 0));
+        }
+    }
+
+    /**
+     * Promise 35: "AN IMAGE is kept: how many GUESTS."
+     * Promise 36: "All that it keeps is as in THE IMAGE, GUESTS that came since are none: how many there are. STATE: there is none."
+     * "AN IMAGE keeps MANNERS, whom all PLAY, PURSES, OFTEN, how many GUESTS there are, THE NIGHT, THE LAW.": and nothing else.
+     */
     private static void images() {
         SomebodyElseTonight x = Due.club(13, 7, 0, 255);
         Due.is("back() ahead of all", x.back(), STATE);

@@ -13,7 +13,7 @@ public final class ToldTest {
         Due.end("ToldTest");
     }
 
-    /** Promise 25. */
+    /** Promise 25: "A SHEET tells rows of three: as whom, a MATTER, what a GUEST DID: the first row (from 0) that is otherwise; -1: none." */
     private static void judging() {
         SomebodyElseTonight x = Due.club(0, 0b00_01_10_11, 0, 0b11_11_11_11, 0, 0b00_01_10_10);
         // As 1 guest 0 falls back, as 2 it passes.
@@ -37,7 +37,7 @@ public final class ToldTest {
         int of(int s, int g, int what);
     }
 
-    /** BAD: SHEET; -11; BAD: what is told; -5; -7. */
+    /** Promises 25 to 29: "BAD: SHEET; -11; BAD: its size isn't by threes, no such GUEST, MATTER told; -5: no such GUEST", and -7. */
     private static void refused(String name, Call c, boolean ofOne, boolean ofWhat) {
         Due.is(name + ", no such SHEET", c.of(4, 9, 9), BAD);
         Due.is(name + ", no such SHEET", c.of(-1, 9, 9), BAD);
@@ -79,7 +79,7 @@ public final class ToldTest {
         }
     }
 
-    /** Promise 26. */
+    /** Promise 26: "KINDS (sort 0; bits 0 .. 5), MORE (1; bits 0 .. 9) by which, were they one's, that would be -1. .. -7: sort." */
     private static void kindsAndMores() {
         // Guest 0 of MORE 4 and MANNERS 1 1 1 1, guest 1 of 2 2 2 1: three apart, the text says 72.
         SomebodyElseTonight x = Due.club(4, 0b01_01_01_01, 0, 0b10_10_10_01);
@@ -114,7 +114,11 @@ public final class ToldTest {
         Due.is("MORE of a SHY one", y.kinds(0, 0, 1), 63);
     }
 
-    /** Promise 27. */
+    /**
+     * Promise 27: "MANNERS by which, were they one's own (of oneself as whom, too), that would be -1: how many (what 0), the
+     * least (1; -1: there are none), the ANSWER on MATTER what less 2 that is the same in all of them (2 .. 5; -1: it isn't,
+     * there are none)."
+     */
     private static void mannersOfIt() {
         SomebodyElseTonight x = Due.club(0, 0b00_01_10_11, 0, 0b11_11_11_11);
         Due.law(x, "plays 0; costs 0; owes 0;");
@@ -144,7 +148,7 @@ public final class ToldTest {
         // Own 3 on 0: 64; else one apart already: of the others 3 on two or three: 3 times (1 + 9).
         Due.is("how many", x.manners(0, 0, 0), 94);
         Due.is("the least", x.manners(0, 0, 1), 0b00_00_11_11);
-        // As oneself: one is never apart from oneself, so a BACHELOR of 70 does as one comes.
+        // "(of oneself as whom, too)": one is never apart from oneself.
         SomebodyElseTonight y = Due.club(40, 27, 0, 0);
         Due.law(y, "plays 49; costs 0; owes 0;");
         // Falls back as oneself: twice one's own, modulo 4.
@@ -156,7 +160,7 @@ public final class ToldTest {
         Due.is("never", y.manners(0, 0, 1), -1);
     }
 
-    /** Promise 28. */
+    /** Promise 28: "GUESTS (bits) of whom that would be -1." */
     private static void whoseTheyAre() {
         SomebodyElseTonight x = Due.club(0, 0, 0, 64, 0, 1, 20, 192);
         Due.law(x, "plays 0; costs 0; owes 0;");
@@ -170,7 +174,7 @@ public final class ToldTest {
         Due.is("whose(0)", x.whose(0), 15);
     }
 
-    /** Promise 29. */
+    /** Promise 29: "TEXTS (bits), were they THE LAW, by which that would be -1." */
     private static void texts() {
         SomebodyElseTonight x = Due.club(0, 0, 0, 255);
         Due.type(x, "plays 90; costs 0; owes 0;");
@@ -192,7 +196,10 @@ public final class ToldTest {
         Due.is("THE LAW stays", x.count(3), 2);
     }
 
-    /** Promise 30. */
+    /**
+     * Promise 30: "A SHEET truly becomes rows of what a GUEST would DO as GUEST 0 on MATTERS 0 .. 3, as 1, .. (the first 13;
+     * bytes): how many. BAD: SHEET; -5: no such GUEST."
+     */
     private static void films() {
         SomebodyElseTonight x = Due.club(0, 0b01_01_10_11, 0, 0b11_00_01_10, 20, 0, 0, 0b01_01_10_10);
         Due.is("film(0, 0)", x.film(0, 0), 13);
@@ -215,7 +222,14 @@ public final class ToldTest {
         Due.is("whom and matter", x.guestsBy(1, 0, 3, 1), 1);
         Due.is("0 and 1 are in the second row", x.told(4, 0), 0);
         Due.is("0 and 1 are in the second row", x.told(4, 2), 1);
-        Due.is("one guest", Due.club(0, 0).film(3, 0), 4);
+        // "the first 13": of one, two, three guests all are fewer.
+        SomebodyElseTonight more = new SomebodyElseTonight();
+        for (int n = 1; n <= 6; n++) {
+            more.guest(10 * n - 10, 40 * n);
+            Due.is("film of " + n, more.film(n & 3, n - 1), Math.min(13, 4 * n));
+            Due.is("its size", more.cell(n & 3, 3 * Math.min(13, 4 * n), 0), -12);
+            Due.is("it is as told", more.judge(n & 3, n - 1), -1);
+        }
         SomebodyElseTonight y = Due.club(0, 1, 0, 0, 0, 0);
         y.sheet(1, 2, 5);
         Due.is("film(1, 2)", y.film(1, 2), 12);

@@ -19,7 +19,7 @@ public final class WhoTest {
         return x;
     }
 
-    /** Promise 16. */
+    /** Promise 16: "GUESTS (bits) whom one CAN BE by some MATTERS (0 .. 15). -5: no such GUEST; -7: matters." */
     private static void being() {
         SomebodyElseTonight x = passing(0b00_01_10_11, 0b00_01_10_00, 0b00_01_00_11, 0b11_01_10_11);
         int[] due = {15, 7, 15, 7, 11, 3, 11, 3, 13, 5, 13, 5, 9, 1, 9, 1};
@@ -40,7 +40,7 @@ public final class WhoTest {
         Due.is("asking changes nothing", x.told(0, 3), 3);
     }
 
-    /** Promise 17. */
+    /** Promise 17: "how many (what 0), the first (1; as digits; by whom GUEST 0 plays, then 1, ..; 0: none). BAD." */
     private static void fitting() {
         SomebodyElseTonight x = passing(0b00_00_00_00, 0b00_01_00_00, 0b01_01_00_00);
         Due.play(x, 0, 1, 2);
@@ -54,7 +54,7 @@ public final class WhoTest {
         Due.is("fits(1, 1)", x.fits(1, 1), 312);
         Due.is("fits(2, 1)", x.fits(2, 1), 231);
         Due.is("fits(15, 1)", x.fits(15, 1), 321);
-        // Two who can only be the one GUEST: none fits.
+        // "no two the same": two who can only be the one GUEST: "(0: none)".
         Due.play(x, 0, 0, 0);
         Due.is("fits(1, 0)", x.fits(1, 0), 0);
         Due.is("fits(1, 1)", x.fits(1, 1), 0);
@@ -81,7 +81,10 @@ public final class WhoTest {
         Due.is("asking changes nothing", y.told(0, 3), 3);
     }
 
-    /** Promise 18. */
+    /**
+     * Promise 18: "Of MATTERS that are none of these the one by which, it being one too, fewest DRAWS FIT, of like ones the
+     * first (what 0; -1: all are), how many (1; as by these, if all are). BAD."
+     */
     private static void lookingNext() {
         // By 0: 2 and 1 alike (2 draws); by 1: all three (6); by 2: none alike (1); by 3: none alike (1).
         SomebodyElseTonight x = passing(0b00_00_00_00, 0b00_00_01_01, 0b01_00_10_10);
@@ -109,7 +112,7 @@ public final class WhoTest {
         Due.is("next(0, -1)", y.next(0, -1), BAD);
     }
 
-    /** Promise 19. */
+    /** Promise 19: "The fewest MATTERS (bits), of like ones the least as bits, by which as many DRAWS FIT as by all four." */
     private static void theFewest() {
         Due.is("all alike", passing(9, 9, 9).fewest(), 0);
         Due.is("by one", passing(0b00_00_00_00, 0b00_00_01_01, 0b01_00_10_10).fewest(), 4);
@@ -124,6 +127,7 @@ public final class WhoTest {
         Due.is("nobody", new SomebodyElseTonight().fewest(), 0);
     }
 
+    /** Nobody is there: one DRAW of no digits fits. */
     private static void nobody() {
         SomebodyElseTonight x = new SomebodyElseTonight();
         Due.is("fits(15, 0)", x.fits(15, 0), 1);
