@@ -4,6 +4,8 @@ public final class EveningTest {
 
     public static void main(String[] args) {
         doing();
+        everyTwo(100);
+        everyTwo(49);
         fallingBack();
         beingKnown();
         evenings();
@@ -48,7 +50,6 @@ public final class EveningTest {
         x.set(0, 1, 0);
         x.would(1, 0);
         Due.is("asking changes nothing", x.told(0, 3), 0);
-        everyTwo();
         // "so WELL as it PASSES, or WELLER": 50 does, 49 does not: 70 less two times 10, 69 less two times 10.
         Due.law(x, "plays 70 - (matter = 1); costs 0; owes 0;");
         x.set(1, 0, 0b11_10_10_11);
@@ -56,13 +57,13 @@ public final class EveningTest {
         Due.is("49 WELL", x.would(1, 1), 1);
     }
 
-    /** "(gAs: 10 times the one, and as whom)": each two of six, who pass. */
-    private static void everyTwo() {
+    /** "(gAs: 10 times the one, and as whom)": each two of six, who pass by 100, and fall back to their own by 49. */
+    private static void everyTwo(int plays) {
         SomebodyElseTonight x = Due.club(0, 27, 0, 78, 0, 228, 0, 177, 0, 114, 0, 201);
-        Due.law(x, "plays 100; costs 0; owes 0;");
+        Due.law(x, "plays " + plays + "; costs 0; owes 0;");
         int[] manners = {27, 78, 228, 177, 114, 201};
         for (int g = 0; g < 6; g++) {
-            for (int as = 0; as < 6; as++) doesAll(x, g, as, manners[as]);
+            for (int as = 0; as < 6; as++) doesAll(x, g, as, manners[plays == 100 ? as : g]);
         }
     }
 

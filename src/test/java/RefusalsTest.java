@@ -35,6 +35,7 @@ public final class RefusalsTest {
         guestsBy();
         taken();
         asking();
+        thereAndBack();
         Due.end("RefusalsTest");
     }
 
@@ -527,6 +528,57 @@ public final class RefusalsTest {
                 NEW.keeps("taken " + i + " for " + kind, x -> x.taken(place, k), MISSING);
             }
         }
+    }
+
+    /** What is told to change is all that changes: what one call does another one takes back. */
+    private static void thereAndBack() {
+        for (int w = 0; w < 3; w++) {
+            int what = w;
+            for (int g = 0; g < 4; g++) {
+                int who = g;
+                BUSY.stays("set there and back", x -> {
+                    int was = x.set(who, what, 1);
+                    return x.set(who, what, was);
+                });
+            }
+        }
+        BUSY.keeps("force there and back", x -> x.force(x.force(2)), 2);
+        BUSY.keeps("cell there and back", x -> 10 * x.cell(0, 0, 2) + x.cell(0, 0, 1), 11);
+        BUSY.keeps("sheet there and back", x -> 10 * x.sheet(3, 1, 40) + x.sheet(3, -1, 0), 11);
+        BUSY.keeps("film and no sheet", x -> 10 * x.film(3, 2) + x.sheet(3, -1, 0), 131);
+        BUSY.keeps("copy onto itself", x -> x.copy(0, 0, 0, 0, 6), 6);
+        BUSY.keeps("copy of none", x -> x.copy(1, 5, 1, 0, 0), 0);
+        BUSY.stays("lots, and as they were", x -> {
+            int[] whom = new int[4];
+            for (int g = 0; g < 4; g++) whom[g] = x.told(g, 3);
+            x.lots(77);
+            for (int g = 0; g < 4; g++) x.set(g, 1, whom[g]);
+            return 0;
+        });
+        NEW.keeps("feed and text", x -> 1000 * x.feed(2, 'a', 'b', 0, 0, 0) + x.text(), 1900);
+        BUSY.keeps("sheet made anew", x -> x.sheet(1, 1, 5) + x.cell(1, 0, 1) + x.cell(1, 1, 2) + x.cell(1, 2, 3), 4);
+        State kept = new State("kept", () -> imaged());
+        kept.keeps("image again", x -> x.image(), 4);
+        kept.keeps("back at once", x -> x.back(), 4);
+        kept.keeps("all that an image keeps, and back", x -> {
+            x.guest(40, 7);
+            for (int g = 0; g < 5; g++) {
+                x.set(g, 0, 99 - g);
+                x.set(g, 1, 4);
+                x.set(g, 2, 50 + g);
+            }
+            x.live();
+            x.lots(3);
+            x.live();
+            x.force(2);
+            return x.back();
+        }, 4);
+    }
+
+    private static SomebodyElseTonight imaged() {
+        SomebodyElseTonight x = busy(1, 0);
+        x.image();
+        return x;
     }
 
     /** "What is asked changes nothing": by numbers that are as told. */

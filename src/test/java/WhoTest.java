@@ -118,6 +118,9 @@ public final class WhoTest {
         Due.is("by one", passing(0b00_00_00_00, 0b00_00_01_01, 0b01_00_10_10).fewest(), 4);
         Due.is("by two", passing(0b00_00_00_00, 0b00_00_00_01, 0b01_00_00_00).fewest(), 9);
         Due.is("by two, the least as bits", passing(0b00_00_00_00, 0b00_01_01_00, 0b01_01_01_01).fewest(), 3);
+        // Matter 3 alone does, and so do 0 and 1 together, which are less as bits, but more MATTERS.
+        Due.is("by one, not by two", passing(0, 65, 18).fewest(), 8);
+        Due.is("by two, not by three", passing(0b00_00_00_00, 0b01_00_00_01, 0b00_01_01_00, 0b00_00_01_01).fewest(), 12);
         Due.is("by three", passing(0, 1, 4, 16).fewest(), 14);
         Due.is("by all", passing(0, 1, 4, 16, 64).fewest(), 15);
         // None fits by matter 3 alone, and as many as by all is none.
