@@ -23,7 +23,7 @@ public final class ModelTest {
     }
 
     public static void main(String[] args) throws Exception {
-        int runs = args.length > 0 ? Integer.parseInt(args[0]) : 1500;
+        int runs = args.length > 0 ? Integer.parseInt(args[0]) : 1000;
         int first = args.length > 1 ? Integer.parseInt(args[1]) : 0;
         Method[] face = SomebodyElseTonight.class.getDeclaredMethods();
         List<Method> open = new ArrayList<>();
@@ -46,7 +46,7 @@ public final class ModelTest {
     }
 
     private void run(List<Method> face) throws Exception {
-        int guests = lot.nextInt(8);
+        int guests = lot.nextInt(9) == 0 ? 0 : 1 + lot.nextInt(7);
         for (int i = 0; i < guests; i++) call("guest", lot.nextInt(60), manners());
         boolean nights = lot.nextInt(3) == 0;
         // An object is used for 512 calls at most; a step of a run has some forty at most.
@@ -90,9 +90,13 @@ public final class ModelTest {
             case "chance" -> call("chance", small(n + 1), small(2));
             case "sheet" -> call("sheet", small(4), small(4) - 1, lot.nextBoolean() ? 3 * small(14) : small(41));
             case "cell" -> call("cell", small(4), small(12), lot.nextBoolean() ? small(60) : lot.nextInt());
-            case "copy" -> call("copy", small(4), small(10), small(4), small(10), small(12));
-            case "guestsBy" -> call("guestsBy", small(4), small(3), small(8), small(4));
+            case "copy" -> { int from = sheet(-1); call("copy", from, small(10), sheet(from), small(10), small(12)); }
+            case "guestsBy" -> { int s = sheet(-1); call("guestsBy", s, sortOf(s), small(8), small(4)); }
             case "taken" -> call("taken", small(12), small(7));
+            case "known", "ring" -> call(m.getName(), small(n));
+            case "learns" -> call("learns", small(n), small(2));
+            case "evening" -> call("evening", small(3));
+            case "best" -> call("best", small(3), small(2));
             case "told", "does" -> call(m.getName(), small(n), small(m.getName().equals("told") ? 6 : 4));
             case "judge", "film", "laws" -> call(m.getName(), small(4), small(n));
             case "kinds" -> call("kinds", small(4), small(n), small(2));
@@ -105,6 +109,21 @@ public final class ModelTest {
                 call(m.getName(), a);
             }
         }
+    }
+
+    /** A sheet that is mostly there; if there is another one, mostly of its sort. */
+    private int sheet(int other) {
+        int s = small(4);
+        for (int i = 0; i < 9 && (isMissing(s) || !isMissing(other) && sortOf(s) != sortOf(other)); i++) s = small(4);
+        return s;
+    }
+
+    private boolean isMissing(int s) {
+        return s < 0 || s > 3 || model.sheets[s] == null;
+    }
+
+    private int sortOf(int s) {
+        return isMissing(s) || lot.nextInt(9) == 0 ? small(3) : model.sortOf(s);
     }
 
     private int money() {
